@@ -144,6 +144,9 @@ public final class AntennaFill {
     }
 
     public int repair() {
+        if (!sites.known) {
+            learnSites();
+        }
         for (int net = 0; net < nets; net++) {
             placeDiodesFor(net);
         }
@@ -373,9 +376,6 @@ public final class AntennaFill {
 
     /** The free and near place of least y, then least x, as y * 1000 + x; NONE if there is none. */
     private int findPlace(int net) {
-        if (!sites.known) {
-            learnSites();
-        }
         int best = NONE;
         for (int s = 0; s < shapes.size; s++) {
             if (shapes.net[s] == net) {

@@ -13,6 +13,10 @@ final class RepairTest {
         laterLayers();
         noPlace();
         mostDiodes();
+        farEdge();
+        layoutGrowsBetween();
+        manyForTheLastNet();
+        toldAndPlaced();
         repairedErrors();
         Check.end();
     }
@@ -197,6 +201,81 @@ final class RepairTest {
         Check.same("at it", fill.repair(), 0);
         fill.limit(1, 499999, 1);
         Check.same("net 1 has none", fill.repair(), 1);
+    }
+
+    private static void farEdge() {
+        for (int free = 6; free <= 8; free++) {
+            int edge = 1000 - free;
+            AntennaFill right = oneNet(2, 999, 499, 1000, 500);
+            right.net();
+            right.shape(1, 0, 0, 0, edge, 1000);
+            right.limit(1, 0, 1);
+            right.repair();
+            Check.same("right of " + edge, right.count(3) > 0, free == 8);
+            AntennaFill top = oneNet(2, 499, 999, 500, 1000);
+            top.net();
+            top.shape(1, 0, 0, 0, 1000, edge);
+            top.limit(1, 0, 1);
+            top.repair();
+            Check.same("above " + edge, top.count(3) > 0, free == 8);
+            if (free == 8) {
+                diodeIs(right, 0, 0, 1, 994, 476);
+                diodeIs(top, 0, 0, 1, 476, 994);
+            }
+        }
+    }
+
+    private static void layoutGrowsBetween() {
+        AntennaFill fill = oneNet(2, 500, 500, 510, 510);
+        fill.limit(1, 1, 1);
+        fill.repair();
+        diodeIs(fill, 0, 0, 1, 477, 477);
+        Check.same("one was enough", fill.count(3), 1);
+        fill.shape(0, 0, 0, 0, 3, 3);
+        fill.limit(1, 1, 2);
+        fill.repair();
+        diodeIs(fill, 1, 0, 1, 5, 2);
+        fill.net();
+        fill.shape(1, 0, 0, 0, 485, 478);
+        fill.limit(1, 1, 3);
+        fill.repair();
+        Check.same("a third one", fill.count(3), 3);
+        diodeIs(fill, 2, 0, 1, 487, 477);
+        AntennaFill filled = oneNet(2, 500, 500, 510, 510);
+        filled.limit(1, 1, 1);
+        filled.repair();
+        filled.fill(0, 10, 0, 0);
+        filled.limit(1, 1, 2);
+        filled.repair();
+        diodeIs(filled, 1, 0, 1, 483, 477);
+    }
+
+    private static void manyForTheLastNet() {
+        AntennaFill fill = new AntennaFill(1);
+        for (int net = 0; net < 2; net++) {
+            fill.net();
+            fill.gate(net, 128);
+            fill.shape(net, 0, 500 * net, 0, 500 * net + 64, 60);
+        }
+        fill.limit(0, 1, 1);
+        Check.same("29 each", fill.repair(), 0);
+        Check.same("58", fill.count(3), 58);
+        fill.shape(1, 0, 800, 800, 816, 824);
+        Check.same("two are not enough for three more", fill.repair(), 1);
+        Check.same("60", fill.count(3), 60);
+        Check.same("the last net's", fill.repaired(59, 0), 1);
+    }
+
+    private static void toldAndPlaced() {
+        AntennaFill fill = oneNet(1, 500, 500, 510, 510);
+        fill.limit(0, 1, 3);
+        fill.repair();
+        Check.same("one placed since 0", fill.diode(0, 0, 1), false);
+        for (int d = 1; d < 100; d++) {
+            fill.diode(0, 0, 1);
+        }
+        Check.same("placed ones are not told", fill.count(2), 100);
+        Check.same("told ones have no place", fill.count(3), 3);
     }
 
     private static void repairedErrors() {
