@@ -22,48 +22,31 @@ final class FillTest {
         Check.end();
     }
 
-    private static AntennaFill withNet(int layers) {
-        AntennaFill fill = new AntennaFill(layers);
-        fill.net();
-        return fill;
-    }
-
-    private static void densityIs(AntennaFill fill, int layer, long x, long y, long upper, long lower) {
-        String what = "density(" + layer + ", " + x + ", " + y + ", ";
-        Check.same(what + "0)", fill.density(layer, x, y, 0), upper);
-        Check.same(what + "1)", fill.density(layer, x, y, 1), lower);
-    }
-
-    private static void pieceIs(AntennaFill fill, int layer, int k, long x, long y) {
-        Check.same("piece(" + layer + ", " + k + ", 0)", fill.piece(layer, k, 0), x);
-        Check.same("piece(" + layer + ", " + k + ", 1)", fill.piece(layer, k, 1), y);
-    }
-
     private static void densities() {
-        AntennaFill fill = withNet(2);
+        AntennaFill fill = Layouts.withNet(2);
         fill.net();
-        densityIs(fill, 0, 0, 0, 0, 1);
+        Layouts.densityIs(fill, 0, 0, 0, 0, 1);
         fill.shape(0, 0, 190, 190, 210, 210);
         fill.shape(1, 0, 190, 190, 200, 210);
-        densityIs(fill, 0, 0, 0, 1, 400);
-        densityIs(fill, 0, 10, 10, 1, 100);
-        densityIs(fill, 0, 200, 0, 1, 400);
-        densityIs(fill, 0, 210, 0, 0, 1);
-        densityIs(fill, 0, 209, 209, 1, 40000);
-        densityIs(fill, 1, 0, 0, 0, 1);
+        Layouts.densityIs(fill, 0, 0, 0, 1, 400);
+        Layouts.densityIs(fill, 0, 10, 10, 1, 100);
+        Layouts.densityIs(fill, 0, 200, 0, 1, 400);
+        Layouts.densityIs(fill, 0, 210, 0, 0, 1);
+        Layouts.densityIs(fill, 0, 209, 209, 1, 40000);
+        Layouts.densityIs(fill, 1, 0, 0, 0, 1);
         fill.shape(1, 1, 0, 0, 1000, 1000);
-        densityIs(fill, 1, 800, 800, 1, 1);
+        Layouts.densityIs(fill, 1, 800, 800, 1, 1);
         fill.bounds(0, 1, 100);
         fill.fill(0, 100, 0, 0);
-        densityIs(fill, 0, 400, 400, 1, 4);
-        densityIs(fill, 0, 450, 450, 1, 4);
+        Layouts.densityIs(fill, 0, 400, 400, 1, 4);
+        Layouts.densityIs(fill, 0, 450, 450, 1, 4);
         fill.shape(0, 0, 400, 400, 410, 410);
-        densityIs(fill, 0, 400, 400, 1, 4);
+        Layouts.densityIs(fill, 0, 400, 400, 1, 4);
     }
 
     private static void densityErrors() {
         AntennaFill fill = new AntennaFill(1);
-        densityIs(fill, 0, 800, 800, 0, 1);
+        Layouts.densityIs(fill, 0, 800, 800, 0, 1);
         Check.noIndex("layer -1", () -> fill.density(-1, 0, 0, 0));
         Check.noIndex("layer 1", () -> fill.density(1, 0, 0, 0));
         Check.noIndex("part -1", () -> fill.density(0, 0, 0, -1));
@@ -93,44 +76,44 @@ final class FillTest {
     }
 
     private static void places() {
-        AntennaFill fill = withNet(1);
+        AntennaFill fill = Layouts.withNet(1);
         Check.same("lower bound 0 asks for nothing", fill.fill(0, 4, 0, 0), 0);
         fill.bounds(0, 100, 100);
         Check.same("two in a row of a tile, four tiles in all", fill.fill(0, 90, 10, 0), 100);
-        pieceIs(fill, 0, 0, 0, 0);
-        pieceIs(fill, 0, 1, 100, 0);
-        pieceIs(fill, 0, 2, 0, 100);
-        pieceIs(fill, 0, 3, 100, 100);
-        pieceIs(fill, 0, 4, 200, 0);
-        pieceIs(fill, 0, 20, 0, 200);
-        pieceIs(fill, 0, 99, 900, 900);
+        Layouts.pieceIs(fill, 0, 0, 0, 0);
+        Layouts.pieceIs(fill, 0, 1, 100, 0);
+        Layouts.pieceIs(fill, 0, 2, 0, 100);
+        Layouts.pieceIs(fill, 0, 3, 100, 100);
+        Layouts.pieceIs(fill, 0, 4, 200, 0);
+        Layouts.pieceIs(fill, 0, 20, 0, 200);
+        Layouts.pieceIs(fill, 0, 99, 900, 900);
         Check.same("the last one ends with the tile", fill.fill(0, 100, 0, 100), 100);
         Check.same("one beyond the tile is no place", fill.fill(0, 100, 1, 0), 25);
         Check.same("three in a row, in later tiles without the first", fill.fill(0, 40, 40, 0), 121);
-        pieceIs(fill, 0, 2, 160, 0);
-        pieceIs(fill, 0, 9, 280, 0);
+        Layouts.pieceIs(fill, 0, 2, 160, 0);
+        Layouts.pieceIs(fill, 0, 9, 280, 0);
         Check.same("all are one layer's", fill.count(4), 121);
     }
 
     private static void awayFromShapes() {
-        AntennaFill fill = withNet(2);
+        AntennaFill fill = Layouts.withNet(2);
         fill.bounds(0, 100, 100);
         fill.bounds(1, 100, 100);
         fill.shape(0, 0, 110, 0, 111, 1);
         Check.same("just 10 away", fill.fill(0, 100, 0, 10), 99);
-        pieceIs(fill, 0, 0, 0, 0);
-        pieceIs(fill, 0, 1, 0, 100);
+        Layouts.pieceIs(fill, 0, 0, 0, 0);
+        Layouts.pieceIs(fill, 0, 1, 0, 100);
         Check.same("11 is too much", fill.fill(0, 100, 0, 11), 98);
-        pieceIs(fill, 0, 0, 0, 100);
+        Layouts.pieceIs(fill, 0, 0, 0, 100);
         Check.same("99 above and 88 to the right", fill.fill(0, 100, 0, 90), 97);
         Check.same("above it too", fill.fill(0, 100, 0, 100), 94);
         Check.same("other layers do not mind", fill.fill(1, 100, 0, 100), 100);
         Check.same("pieces of both", fill.count(4), 194);
-        pieceIs(fill, 1, 0, 0, 0);
+        Layouts.pieceIs(fill, 1, 0, 0, 0);
     }
 
     private static void awayFromDiodes() {
-        AntennaFill fill = withNet(2);
+        AntennaFill fill = Layouts.withNet(2);
         fill.gate(0, 1);
         fill.shape(0, 1, 0, 0, 1, 1);
         fill.limit(1, 1, 100);
@@ -146,13 +129,13 @@ final class FillTest {
     }
 
     private static void spaceBetweenTiles() {
-        AntennaFill fill = withNet(1);
+        AntennaFill fill = Layouts.withNet(1);
         fill.bounds(0, 20, 100);
         Check.same("every other tile and row", fill.fill(0, 100, 100, 0), 25);
         fill.bounds(0, 100, 100);
         Check.same("90 + 20 + 90 is the tile's side", fill.fill(0, 90, 20, 0), 36);
-        pieceIs(fill, 0, 4, 310, 0);
-        pieceIs(fill, 0, 5, 310, 110);
+        Layouts.pieceIs(fill, 0, 4, 310, 0);
+        Layouts.pieceIs(fill, 0, 5, 310, 110);
         Check.same("a place further there is none", fill.fill(0, 90, 21, 0), 25);
         Check.same("98 + 4 + 98 too", fill.fill(0, 98, 4, 0), 36);
         Check.same("space 2 reaches from 98 + 2 just to 200", fill.fill(0, 98, 2, 0), 100);
@@ -163,7 +146,7 @@ final class FillTest {
     }
 
     private static void stopsAtTheBound() {
-        AntennaFill fill = withNet(1);
+        AntennaFill fill = Layouts.withNet(1);
         fill.bounds(0, 1, 100);
         Check.same("just 1 percent", fill.fill(0, 20, 0, 0), 25);
         fill.bounds(0, 2, 100);
@@ -171,21 +154,21 @@ final class FillTest {
         Check.same("441 is above 1 percent", fill.fill(0, 21, 0, 0), 50);
         fill.shape(0, 0, 0, 0, 40, 20);
         Check.same("the first tile has it", fill.fill(0, 20, 0, 0), 48);
-        pieceIs(fill, 0, 0, 200, 0);
+        Layouts.pieceIs(fill, 0, 0, 200, 0);
         fill.bounds(0, 0, 100);
         Check.same("its pieces are gone", fill.fill(0, 20, 0, 0), 0);
         Check.same("all", fill.count(4), 0);
     }
 
     private static void mostPieces() {
-        AntennaFill fill = withNet(3);
+        AntennaFill fill = Layouts.withNet(3);
         for (int layer = 0; layer < 3; layer++) {
             fill.bounds(layer, 100, 100);
         }
         Check.same("some on layer 1", fill.fill(1, 100, 0, 0), 100);
         Check.same("the rest on layer 0", fill.fill(0, 4, 0, 0), 1400);
         Check.same("in all", fill.count(4), 1500);
-        pieceIs(fill, 0, 1399, 196, 27 * 4);
+        Layouts.pieceIs(fill, 0, 1399, 196, 27 * 4);
         Check.same("no more", fill.fill(2, 100, 0, 0), 0);
         Check.same("all tiles are told", fill.told(24), 24);
         Check.same("again: its own are gone first", fill.fill(1, 100, 0, 0), 100);
@@ -193,12 +176,12 @@ final class FillTest {
         fill.bounds(1, 0, 100);
         fill.fill(1, 100, 0, 0);
         Check.same("room again", fill.fill(2, 100, 0, 0), 100);
-        pieceIs(fill, 2, 99, 900, 900);
-        pieceIs(fill, 0, 0, 0, 0);
+        Layouts.pieceIs(fill, 2, 99, 900, 900);
+        Layouts.pieceIs(fill, 0, 0, 0, 0);
     }
 
     private static void toldTiles() {
-        AntennaFill fill = withNet(2);
+        AntennaFill fill = Layouts.withNet(2);
         Check.same("no fill yet", fill.told(0), AntennaFill.NONE);
         fill.bounds(0, 0, 49);
         fill.shape(0, 0, 200, 0, 400, 98);
@@ -231,7 +214,7 @@ final class FillTest {
     }
 
     private static void fillErrors() {
-        AntennaFill fill = withNet(1);
+        AntennaFill fill = Layouts.withNet(1);
         fill.bounds(0, 1, 100);
         fill.fill(0, 100, 100, 100);
         Check.noIndex("layer -1", () -> fill.fill(-1, 10, 0, 0));
@@ -247,10 +230,10 @@ final class FillTest {
     }
 
     private static void pieceErrors() {
-        AntennaFill fill = withNet(2);
+        AntennaFill fill = Layouts.withNet(2);
         fill.bounds(1, 1, 100);
         fill.fill(1, 100, 0, 0);
-        pieceIs(fill, 1, 24, 800, 800);
+        Layouts.pieceIs(fill, 1, 24, 800, 800);
         Check.noIndex("layer -1", () -> fill.piece(-1, 0, 0));
         Check.noIndex("layer 2", () -> fill.piece(2, 0, 0));
         Check.noIndex("k -1", () -> fill.piece(1, -1, 0));

@@ -20,14 +20,6 @@ final class NetsTest {
         Check.end();
     }
 
-    private static AntennaFill withNets(int layers, int nets) {
-        AntennaFill fill = new AntennaFill(layers);
-        for (int n = 0; n < nets; n++) {
-            fill.net();
-        }
-        return fill;
-    }
-
     private static void newObject() {
         Check.same("NONE", AntennaFill.NONE, -1);
         int[][] layersAndDue = {
@@ -56,7 +48,7 @@ final class NetsTest {
     }
 
     private static void shapes() {
-        AntennaFill fill = withNets(2, 2);
+        AntennaFill fill = Layouts.withNets(2, 2);
         Check.same("first", fill.shape(0, 0, 10, 10, 20, 20), true);
         Check.same("the same again", fill.shape(0, 0, 10, 10, 20, 20), false);
         Check.same("within", fill.shape(0, 0, 12, 12, 13, 19), false);
@@ -72,7 +64,7 @@ final class NetsTest {
     }
 
     private static void shapesInPieces() {
-        AntennaFill fill = withNets(1, 1);
+        AntennaFill fill = Layouts.withNets(1, 1);
         fill.shape(0, 0, 0, 0, 10, 4);
         fill.shape(0, 0, 0, 6, 10, 10);
         fill.shape(0, 0, 0, 4, 4, 6);
@@ -84,7 +76,7 @@ final class NetsTest {
     }
 
     private static void shapeErrors() {
-        AntennaFill fill = withNets(2, 1);
+        AntennaFill fill = Layouts.withNets(2, 1);
         Check.noIndex("net -1", () -> fill.shape(-1, 0, 0, 0, 1, 1));
         Check.noIndex("net 1", () -> fill.shape(1, 0, 0, 0, 1, 1));
         Check.noIndex("layer -1", () -> fill.shape(0, -1, 0, 0, 1, 1));
@@ -111,7 +103,7 @@ final class NetsTest {
     }
 
     private static void gates() {
-        AntennaFill fill = withNets(1, 2);
+        AntennaFill fill = Layouts.withNets(1, 2);
         Check.same("first gate", fill.gate(0, 1), 1);
         Check.same("largest gate", fill.gate(0, 1000000), 1000001);
         Check.same("gate of another net", fill.gate(1, 7), 7);
@@ -121,17 +113,10 @@ final class NetsTest {
             Check.noArgument("area " + area, () -> fill.gate(0, area));
         }
         Check.same("refusals changed nothing", fill.gate(0, 1), 1000002);
-        AntennaFill full = withNets(1, 1);
-        for (int g = 0; g < 999; g++) {
-            full.gate(0, 1000000);
-        }
-        Check.same("one below the most", full.gate(0, 999999), 999999999);
-        Check.noArgument("above the most", () -> full.gate(0, 2));
-        Check.same("the most", full.gate(0, 1), 1000000000);
     }
 
     private static void diodes() {
-        AntennaFill fill = withNets(3, 2);
+        AntennaFill fill = Layouts.withNets(3, 2);
         Check.same("first since 0", fill.diode(0, 0, 1), true);
         Check.same("second since 0", fill.diode(0, 0, 1000000), false);
         Check.same("first since 2", fill.diode(0, 2, 5), true);
@@ -158,48 +143,42 @@ final class NetsTest {
     }
 
     private static void ratios() {
-        AntennaFill fill = withNets(3, 2);
+        AntennaFill fill = Layouts.withNets(3, 2);
         fill.shape(0, 0, 0, 0, 10, 10);
         fill.shape(0, 0, 5, 5, 15, 15);
         fill.shape(0, 2, 0, 0, 3, 1);
-        ratioIs(fill, 0, 2, 0, 1);
+        Layouts.ratioIs(fill, 0, 2, 0, 1);
         fill.diode(0, 1, 10);
-        ratioIs(fill, 0, 2, 0, 1);
+        Layouts.ratioIs(fill, 0, 2, 0, 1);
         fill.gate(0, 35);
-        ratioIs(fill, 0, 0, 5, 1);
-        ratioIs(fill, 0, 1, 35, 23);
-        ratioIs(fill, 0, 2, 178, 115);
+        Layouts.ratioIs(fill, 0, 0, 5, 1);
+        Layouts.ratioIs(fill, 0, 1, 35, 23);
+        Layouts.ratioIs(fill, 0, 2, 178, 115);
         fill.diode(0, 2, 2);
-        ratioIs(fill, 0, 2, 178, 131);
-        ratioIs(fill, 0, 1, 35, 23);
+        Layouts.ratioIs(fill, 0, 2, 178, 131);
+        Layouts.ratioIs(fill, 0, 1, 35, 23);
         fill.gate(1, 8);
-        ratioIs(fill, 1, 2, 0, 1);
+        Layouts.ratioIs(fill, 1, 2, 0, 1);
         fill.shape(1, 1, 0, 0, 1000, 1000);
-        ratioIs(fill, 1, 0, 0, 1);
-        ratioIs(fill, 1, 1, 125000, 1);
+        Layouts.ratioIs(fill, 1, 0, 0, 1);
+        Layouts.ratioIs(fill, 1, 1, 125000, 1);
         Check.noIndex("net -1", () -> fill.ratio(-1, 0, 0));
         Check.noIndex("net 2", () -> fill.ratio(2, 0, 0));
         Check.noIndex("layer -1", () -> fill.ratio(0, -1, 0));
         Check.noIndex("layer 3", () -> fill.ratio(0, 3, 0));
         Check.noIndex("part -1", () -> fill.ratio(0, 0, -1));
         Check.noIndex("part 2", () -> fill.ratio(0, 0, 2));
-        AntennaFill all = withNets(64, 1);
+        AntennaFill all = Layouts.withNets(64, 1);
         all.gate(0, 3);
         for (int layer = 0; layer < 64; layer++) {
             all.shape(0, layer, 0, 0, 1000, 1000);
         }
-        ratioIs(all, 0, 62, 21000000, 1);
-        ratioIs(all, 0, 63, 64000000, 3);
-    }
-
-    private static void ratioIs(AntennaFill fill, int net, int layer, long upper, long lower) {
-        String what = " number of net " + net + " at layer " + layer;
-        Check.same("upper" + what, fill.ratio(net, layer, 0), upper);
-        Check.same("lower" + what, fill.ratio(net, layer, 1), lower);
+        Layouts.ratioIs(all, 0, 62, 21000000, 1);
+        Layouts.ratioIs(all, 0, 63, 64000000, 3);
     }
 
     private static void limits() {
-        AntennaFill fill = withNets(2, 1);
+        AntennaFill fill = Layouts.withNets(2, 1);
         Check.same("first, though it is 0", fill.limit(0, 0, 5), true);
         Check.same("0 again", fill.limit(0, 0, 1000000), false);
         Check.same("another", fill.limit(0, 2, 4), true);
@@ -217,7 +196,7 @@ final class NetsTest {
     }
 
     private static void counts() {
-        AntennaFill fill = withNets(1, 3);
+        AntennaFill fill = Layouts.withNets(1, 3);
         for (int what = 0; what < 5; what++) {
             Check.same("count of " + what, fill.count(what), what == 0 ? 3 : 0);
         }

@@ -1,8 +1,10 @@
 import java.util.concurrent.Callable;
 
-/** All promises: runs of some 500 chance calls (always the same ones), each answer against the plain model's. */
+/** All promises: runs of up to 512 chance calls (always the same ones), each answer against the plain model's. */
 final class RandomRunsTest {
-    private static final int CALLS = 400;
+    private static final int MOST_CALLS = 512;
+    // no chance call takes more of them
+    private static final int CALLS_AT_ONCE = 12;
 
     private long seed;
     private AntennaFill fill;
@@ -13,6 +15,10 @@ final class RandomRunsTest {
     private boolean fromFarCorner;
     // with limits that ask for more diodes than there can be
     private boolean wild;
+    // with corners at and beside the tiles' sides and the plane's
+    private boolean snapped;
+    private int shapesInHundred;
+    private int used;
 
     private RandomRunsTest(long seed) {
         this.seed = seed * 1000003L;
@@ -44,9 +50,12 @@ final class RandomRunsTest {
         reach = of(60, 200, 450, 1000);
         fromFarCorner = below(3) == 0;
         wild = below(4) == 0;
+        snapped = below(3) == 0;
+        shapesInHundred = of(20, 26, 60);
         fill = new AntennaFill(layers);
         model = new PlainModel(layers);
-        for (int c = 0; c < CALLS; c++) {
+        used = 0;
+        for (int c = 0; used <= MOST_CALLS - CALLS_AT_ONCE; c++) {
             chanceCall("run " + run + " call " + c + " ", c);
         }
     }
@@ -70,14 +79,16 @@ final class RandomRunsTest {
         }
         int n = net();
         int l = layer();
-        int kind = below(100);
-        if (kind < 26) {
+        if (below(100) < shapesInHundred) {
             shape(name, n, l);
-        } else if (kind < 44) {
+            return;
+        }
+        int kind = below(74);
+        if (kind < 18) {
             gatesAndLimits(name, n, l);
-        } else if (kind < 50) {
+        } else if (kind < 24) {
             repair(name, l);
-        } else if (kind < 62) {
+        } else if (kind < 36) {
             fills(name, l);
         } else {
             question(name, n, l);
@@ -85,14 +96,25 @@ final class RandomRunsTest {
     }
 
     private void shape(String name, int n, int l) {
-        int x = fromFarCorner ? 999 - below(reach) : below(reach);
-        int y = fromFarCorner ? 999 - below(reach) : below(reach);
+        int x = corner();
+        int y = corner();
         int wide = of(1 + below(12), 1 + below(60), 1 + below(300));
         int tall = of(1 + below(12), 1 + below(60), 1 + below(300));
-        int x1 = below(40) == 0 ? of(x, x - 1, 1001) : Math.min(1000, x + wide);
-        int y1 = below(40) == 0 ? of(y, y - 1, 1001) : Math.min(1000, y + tall);
+        int x1 = below(40) == 0 ? of(x, x - 1, 1001) : snap(Math.min(1000, x + wide));
+        int y1 = below(40) == 0 ? of(y, y - 1, 1001) : snap(Math.min(1000, y + tall));
         compare(name + "shape(" + n + ", " + l + ", " + x + ", " + y + ", " + x1 + ", " + y1 + ")",
                 () -> fill.shape(n, l, x, y, x1, y1), () -> model.shape(n, l, x, y, x1, y1));
+    }
+
+    private int corner() {
+        return snap(fromFarCorner ? 999 - below(reach) : below(reach));
+    }
+
+    private int snap(int at) {
+        if (!snapped || below(4) == 0) {
+            return at;
+        }
+        return Math.max(0, Math.min(1000, (at + 50) / 100 * 100 + of(-2, -1, 0, 0, 1, 2)));
     }
 
     private void gatesAndLimits(String name, int n, int l) {
@@ -187,7 +209,8 @@ final class RandomRunsTest {
         }
     }
 
-    private static void compare(String name, Callable<?> call, Callable<?> due) {
+    private void compare(String name, Callable<?> call, Callable<?> due) {
+        used++;
         Check.same(name, answer(call), answer(due));
     }
 

@@ -29,13 +29,6 @@ final class RepairTest {
         return fill;
     }
 
-    private static void diodeIs(AntennaFill fill, int k, int net, int since, int x, int y) {
-        int[] due = {net, since, x, y};
-        for (int what = 0; what < 4; what++) {
-            Check.same("repaired(" + k + ", " + what + ")", fill.repaired(k, what), due[what]);
-        }
-    }
-
     private static void nothingToRepair() {
         AntennaFill fill = new AntennaFill(1);
         Check.same("no nets", fill.repair(), 0);
@@ -56,9 +49,9 @@ final class RepairTest {
         fill.limit(1, 1, 3);
         Check.same("all is repaired", fill.repair(), 0);
         Check.same("1 + 3 * 128 is enough for 100 * 3", fill.count(3), 3);
-        diodeIs(fill, 0, 0, 1, 477, 477);
-        diodeIs(fill, 1, 0, 1, 483, 477);
-        diodeIs(fill, 2, 0, 1, 489, 477);
+        Layouts.diodeIs(fill, 0, 0, 1, 477, 477);
+        Layouts.diodeIs(fill, 1, 0, 1, 483, 477);
+        Layouts.diodeIs(fill, 2, 0, 1, 489, 477);
         Check.same("since layer 1, it helps there", fill.ratio(0, 1, 1), 77);
         Check.same("but not at layer 0", fill.ratio(0, 0, 1), 1);
         Check.same("told one is not the first", fill.diode(0, 1, 1), false);
@@ -82,15 +75,15 @@ final class RepairTest {
         AntennaFill low = oneNet(2, 0, 0, 1, 1);
         low.limit(1, 0, 1);
         Check.same("never below 0", low.repair(), 1);
-        diodeIs(low, 0, 0, 1, 2, 2);
-        diodeIs(low, 3, 0, 1, 20, 2);
-        diodeIs(low, 4, 0, 1, 2, 8);
+        Layouts.diodeIs(low, 0, 0, 1, 2, 2);
+        Layouts.diodeIs(low, 3, 0, 1, 20, 2);
+        Layouts.diodeIs(low, 4, 0, 1, 2, 8);
         Check.same("x and y 2, 8, 14, 20", low.count(3), 16);
         AntennaFill high = oneNet(2, 999, 999, 1000, 1000);
         high.limit(1, 0, 1);
         high.repair();
-        diodeIs(high, 0, 0, 1, 976, 976);
-        diodeIs(high, 3, 0, 1, 994, 976);
+        Layouts.diodeIs(high, 0, 0, 1, 976, 976);
+        Layouts.diodeIs(high, 3, 0, 1, 994, 976);
         Check.same("976, 982, 988, 994", high.count(3), 16);
     }
 
@@ -103,8 +96,8 @@ final class RepairTest {
         fill.limit(1, 1, 130);
         fill.shape(1, 0, 400, 400, 485, 479);
         fill.repair();
-        diodeIs(fill, 0, 0, 1, 487, 477);
-        diodeIs(fill, 1, 0, 1, 493, 477);
+        Layouts.diodeIs(fill, 0, 0, 1, 487, 477);
+        Layouts.diodeIs(fill, 1, 0, 1, 493, 477);
         fill.shape(0, 1, 100, 100, 101, 101);
         fill.shape(0, 0, 60, 60, 200, 82);
         fill.repair();
@@ -116,8 +109,8 @@ final class RepairTest {
         under.limit(1, 0, 1);
         Check.same("still over", under.repair(), 1);
         Check.same("a row of 7 between the shapes", under.count(3), 8);
-        diodeIs(under, 0, 0, 1, 477, 492);
-        diodeIs(under, 7, 0, 1, 519, 492);
+        Layouts.diodeIs(under, 0, 0, 1, 477, 492);
+        Layouts.diodeIs(under, 7, 0, 1, 519, 492);
     }
 
     private static void piecesStandInTheWay() {
@@ -127,7 +120,7 @@ final class RepairTest {
         fill.bounds(1, 100, 100);
         fill.fill(1, 100, 0, 1);
         Check.same("pieces on layer 1 are not in the way", fill.repair(), 0);
-        diodeIs(fill, 0, 0, 1, 77, 77);
+        Layouts.diodeIs(fill, 0, 0, 1, 77, 77);
         fill.limit(1, 0, 1);
         fill.fill(0, 100, 0, 0);
         fill.shape(0, 1, 700, 700, 701, 701);
@@ -158,10 +151,10 @@ final class RepairTest {
         fill.limit(2, 1, 1);
         Check.same("repaired", fill.repair(), 0);
         Check.same("two for each net", fill.count(3), 4);
-        diodeIs(fill, 0, 0, 0, 277, 277);
-        diodeIs(fill, 1, 0, 2, 283, 277);
-        diodeIs(fill, 2, 1, 0, 577, 277);
-        diodeIs(fill, 3, 1, 2, 583, 277);
+        Layouts.diodeIs(fill, 0, 0, 0, 277, 277);
+        Layouts.diodeIs(fill, 1, 0, 2, 283, 277);
+        Layouts.diodeIs(fill, 2, 1, 0, 577, 277);
+        Layouts.diodeIs(fill, 3, 1, 2, 583, 277);
     }
 
     private static void noPlace() {
@@ -194,7 +187,7 @@ final class RepairTest {
         fill.limit(1, 1, 1);
         Check.same("both are over", fill.repair(), 2);
         Check.same("the most", fill.count(3), 60);
-        diodeIs(fill, 59, 0, 1, 2 + 59 * 6, 2);
+        Layouts.diodeIs(fill, 59, 0, 1, 2 + 59 * 6, 2);
         fill.limit(1, 1000000, 1);
         Check.same("not over any more", fill.repair(), 0);
         fill.limit(1, 500000, 1);
@@ -219,8 +212,8 @@ final class RepairTest {
             top.repair();
             Check.same("above " + edge, top.count(3) > 0, free == 8);
             if (free == 8) {
-                diodeIs(right, 0, 0, 1, 994, 476);
-                diodeIs(top, 0, 0, 1, 476, 994);
+                Layouts.diodeIs(right, 0, 0, 1, 994, 476);
+                Layouts.diodeIs(top, 0, 0, 1, 476, 994);
             }
         }
     }
@@ -229,25 +222,25 @@ final class RepairTest {
         AntennaFill fill = oneNet(2, 500, 500, 510, 510);
         fill.limit(1, 1, 1);
         fill.repair();
-        diodeIs(fill, 0, 0, 1, 477, 477);
+        Layouts.diodeIs(fill, 0, 0, 1, 477, 477);
         Check.same("one was enough", fill.count(3), 1);
         fill.shape(0, 0, 0, 0, 3, 3);
         fill.limit(1, 1, 2);
         fill.repair();
-        diodeIs(fill, 1, 0, 1, 5, 2);
+        Layouts.diodeIs(fill, 1, 0, 1, 5, 2);
         fill.net();
         fill.shape(1, 0, 0, 0, 485, 478);
         fill.limit(1, 1, 3);
         fill.repair();
         Check.same("a third one", fill.count(3), 3);
-        diodeIs(fill, 2, 0, 1, 487, 477);
+        Layouts.diodeIs(fill, 2, 0, 1, 487, 477);
         AntennaFill filled = oneNet(2, 500, 500, 510, 510);
         filled.limit(1, 1, 1);
         filled.repair();
         filled.fill(0, 10, 0, 0);
         filled.limit(1, 1, 2);
         filled.repair();
-        diodeIs(filled, 1, 0, 1, 483, 477);
+        Layouts.diodeIs(filled, 1, 0, 1, 483, 477);
     }
 
     private static void manyForTheLastNet() {
